@@ -322,10 +322,6 @@ public final class SquareRig {
         return kind == RIG_ANEW && isIn(what, 0, LAST_MAST) && how == 0;
     }
 
-    private static int amount(int number) {
-        return number < 0 ? -number : number;
-    }
-
     /** Something that was told to the ship, kept so that it can be told again. */
     private static final class Deed {
         private final int kind;
@@ -419,7 +415,9 @@ public final class SquareRig {
                 feelWind();
             }
             gatherWay();
-            turn();
+            if (turn()) {
+                feelWind();
+            }
             noteSide();
             go();
             minute++;
@@ -456,16 +454,14 @@ public final class SquareRig {
             }
         }
 
-        private void turn() {
-            int before = heading;
+        /** Swings her; answers whether she heads elsewhere then. */
+        private boolean turn() {
             swing += helm * speed / 4;
             swing += windSide() * ((rig.mizzen.strain - rig.fore.strain) / 50);
             int points = swing / 100;
             swing -= 100 * points;
             heading = (heading + points) & 31;
-            if (heading != before) {
-                feelWind();
-            }
+            return points != 0;
         }
 
         private void noteSide() {
@@ -474,14 +470,14 @@ public final class SquareRig {
                 return;
             }
             if (lastSide != NEITHER && side != lastSide) {
-                log.write(amount(offBow()) <= 8 ? 't' : 'g', minute);
+                log.write(Math.abs(offBow()) <= 8 ? 't' : 'g', minute);
             }
             lastSide = side;
         }
 
         private void go() {
             place.go(heading, speed);
-            if (amount(offBow()) <= 10) {
+            if (Math.abs(offBow()) <= 10) {
                 place.go(windFrom + 16, rig.wholeStrain() / 200);
             }
             place.east += currentEast;
@@ -637,7 +633,7 @@ public final class SquareRig {
         }
 
         static int bestBrace(int off) {
-            int best = (16 - amount(off)) / 2;
+            int best = (16 - Math.abs(off)) / 2;
             if (best > 4) {
                 best = 4;
             }
@@ -650,8 +646,8 @@ public final class SquareRig {
 
         void feel(int off, int wind) {
             int best = bestBrace(off);
-            int onSquare = pushAt(SQUARE_PUSH, amount(off));
-            int onOthers = pushAt(FORE_AND_AFT_PUSH, amount(off));
+            int onSquare = pushAt(SQUARE_PUSH, Math.abs(off));
+            int onOthers = pushAt(FORE_AND_AFT_PUSH, Math.abs(off));
             drive = 0;
             for (Mast mast : masts) {
                 mast.strain = 0;
@@ -660,12 +656,12 @@ public final class SquareRig {
                 int push = sail.isSquare ? bracedPush(onSquare, sail.mast.braced - best) : onOthers;
                 sail.force = sail.area * sail.spread * wind * push / 2;
                 drive += sail.force;
-                sail.mast.strain += amount(sail.force);
+                sail.mast.strain += Math.abs(sail.force);
             }
         }
 
         private static int bracedPush(int push, int wrong) {
-            int left = push - 2 * amount(wrong);
+            int left = push - 2 * Math.abs(wrong);
             return left < LEAST_PUSH ? LEAST_PUSH : left;
         }
 
@@ -677,7 +673,7 @@ public final class SquareRig {
         boolean strainAll(LogBook log, int minute) {
             boolean isLost = false;
             for (Sail sail : sails) {
-                int strain = amount(sail.force);
+                int strain = Math.abs(sail.force);
                 if (strain > sail.rope) {
                     sail.part();
                     sail.mast.strain -= strain;
@@ -956,9 +952,9 @@ public final class SquareRig {
         private final boolean[] isWater = new boolean[MOST_CASKS];
         private int casks = 0;
 
-        void put(boolean water, int amountOfUnits) {
+        void put(boolean water, int unitsInIt) {
             if (casks >= 0 && casks < MOST_CASKS) {
-                units[casks] = amountOfUnits;
+                units[casks] = unitsInIt;
                 isWater[casks] = water;
                 casks++;
             }
@@ -1019,8 +1015,10 @@ public final class SquareRig {
 
         void write(char letter, int minute) {
             int slot = slotOf(kept);
-            letters[slot] = letter;
-            minutes[slot] = minute;
+            if (slot >= 0 && slot < letters.length && slot < minutes.length) {
+                letters[slot] = letter;
+                minutes[slot] = minute;
+            }
             if (kept < MOST_LINES) {
                 kept++;
             } else {
@@ -1029,11 +1027,13 @@ public final class SquareRig {
         }
 
         char letterOf(int line) {
-            return letters[slotOf(line)];
+            int slot = slotOf(line);
+            return slot >= 0 && slot < letters.length ? letters[slot] : ' ';
         }
 
         int minuteOf(int line) {
-            return minutes[slotOf(line)];
+            int slot = slotOf(line);
+            return slot >= 0 && slot < minutes.length ? minutes[slot] : 0;
         }
 
         private int slotOf(int line) {

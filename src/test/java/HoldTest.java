@@ -61,6 +61,15 @@ public final class HoldTest {
         Check.refused("of none left", ship, NoSuchElementException.class, () -> ship.jettison());
         Check.same("a new one", ship.stow(false, 9), 1);
         Check.same("its units", casks(ship), "9 ");
+        // What went over board feeds nobody.
+        SquareRig gone = new SquareRig();
+        gone.stow(true, 100);
+        gone.stow(false, 100);
+        gone.stow(false, 100);
+        gone.jettison();
+        gone.jettison();
+        Voyage.sailFar(gone, 1440);
+        Check.same("no food is left", casks(gone) + gone.sick(0), "76 1");
     }
 
     private static void aDayTakes() {
@@ -81,6 +90,8 @@ public final class HoldTest {
         day("water behind food", "w50 f9 f9 f9", "26 3 0 0 ", 0);
         day("water is not reached", "w50 f9 f9 f30", "50 9 9 6 ", 1);
         day("what is there", "f6 f6 f6 w5 w6", "0 0 0 0 0 ", 1);
+        String eighteen = "w500 f500 ".repeat(9);
+        day("the twentieth cask", eighteen + "w24 f24", eighteen.replaceAll("[wf]", "") + "0 0 ", 0);
         twoDays();
     }
 

@@ -8,6 +8,7 @@ public final class LogTest {
     public static void main(String[] args) {
         promise29noon();
         promise30and31reckoning();
+        promise30and31knotsAreCut();
         promise30and31roundTheCompass();
         promise32lines();
         promise33line();
@@ -55,6 +56,20 @@ public final class LogTest {
         ship.current(500, 500);
         ship.sail(30);
         Check.same("the current is not seen", ship.reckonedEast() + " " + (ship.reckonedNorth() - north), "0 -30000");
+    }
+
+    private static void promise30and31knotsAreCut() {
+        for (int strength = 0; strength <= 10; strength++) {
+            for (int from = 0; from <= 16; from += 16) {
+                SquareRig ship = Voyage.under(0, from == 0 ? 2 : 3);
+                ship.sail(10);
+                ship.wind(from, strength);
+                ship.sail(30);
+                int speed = from == 0 ? -36 * strength / 30 : 80 * strength / 30;
+                Check.same("speed by the strength " + strength, ship.speed(), speed);
+                Check.same("reckoned by it", ship.reckonedNorth(), 30L * (speed / 10) * 10 * 100);
+            }
+        }
     }
 
     private static void promise30and31roundTheCompass() {

@@ -91,6 +91,9 @@ public final class OrdersTest {
         for (int wrong : new int[] {-4, 4, Integer.MIN_VALUE, Integer.MAX_VALUE}) {
             Check.refused("helm(" + wrong + ")", ship, ARGUMENT, () -> ship.helm(wrong));
         }
+        ship.current(5, 7);
+        ship.wind(9, 3);
+        ship.callAll(true);
         Check.same("the helm kept", ship.helm(0), 2);
     }
 
@@ -393,6 +396,7 @@ public final class OrdersTest {
         ship.order('r', 2, 0);
         ship.sail(2);
         Check.same("three at once", states(ship, 3), "bbb");
+        Check.same("no cask came by it", ship.stow(true, 1), 1);
     }
 
     private static void promise9watch() {

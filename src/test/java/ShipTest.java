@@ -92,6 +92,12 @@ public final class ShipTest {
         Check.same("jib, left", headings(7, 24, 12), "0 1 1 2 3 ");
         Check.same("spanker, astern", headings(8, 16, 12), "0 0 0 0 0 ");
         Check.same("spanker, ahead", headings(8, 0, 12), "0 0 0 0 0 ");
+        for (int from = 4; from < 29; from++) {
+            for (int strength = 1; strength <= 12; strength++) {
+                headings(7, from, strength);
+                headings(8, from, strength);
+            }
+        }
     }
 
     /** The headings of a ship under one sail behind every 10th minute. */
@@ -243,6 +249,14 @@ public final class ShipTest {
                 Check.same("drift from " + from, ship.east(), (long) due);
             }
         }
+        // 900, 360 and 135 are 1395, 6 times 200.
+        SquareRig heavy = Voyage.under(3, 3, 5);
+        Voyage.give(heavy, 's', 2, 1);
+        heavy.wind(10, 9);
+        Check.same("the strains", Voyage.strain(heavy), 1395);
+        heavy.sail(1);
+        Check.same("their drift", heavy.east() + " " + (heavy.north() - 2 * 100), 6 * Voyage.eastPart(26) + " " + 6 * Voyage.northPart(26));
+        driftOfManyWinds();
         // Before, she was at most 10 points off the bow, and behind the turning she is not.
         SquareRig ship = Voyage.under(0, 3);
         ship.wind(16, 9);
@@ -255,6 +269,29 @@ public final class ShipTest {
             ship.sail(1);
         }
         Check.same("no drift behind the turning", ship.east() - last, (long) ship.speed() * Voyage.eastPart(31));
+    }
+
+    private static void driftOfManyWinds() {
+        // The strains behind the turning count: she turns under way while the wind is abeam.
+        for (int braced = -4; braced <= 4; braced++) {
+            SquareRig ship = Voyage.under(braced, 3, 4, 6);
+            ship.wind(16, 9);
+            ship.sail(30);
+            ship.helm(3);
+            for (int i = 0; i < 200; i++) {
+                int from = Math.floorMod(ship.heading() + i * 11 % 21 - 10, 32);
+                ship.wind(from, i * 7 % 13);
+                long east = ship.east();
+                long north = ship.north();
+                ship.sail(1);
+                int h = ship.heading();
+                int lee = Math.abs(ship.off()) <= 10 ? Voyage.strain(ship) / 200 : 0;
+                long dueEast = ship.speed() * Voyage.eastPart(h) + lee * Voyage.eastPart(from + 16);
+                long dueNorth = ship.speed() * Voyage.northPart(h) + lee * Voyage.northPart(from + 16);
+                Check.same("drift to the east", ship.east() - east, dueEast);
+                Check.same("drift to the north", ship.north() - north, dueNorth);
+            }
+        }
     }
 
     private static void promise22off() {
@@ -453,6 +490,18 @@ public final class ShipTest {
         three.wind(10, 11);
         three.sail(1);
         Check.same("1980 holds", three.isSprung(0), false);
+        // 800, 700, 300 and 200 are 2000, and 880, 770 and 352 are 2002.
+        SquareRig just = Voyage.under(2, 0, 1, 2, 7);
+        just.sail(9);
+        just.wind(12, 10);
+        Check.same("the strain", Voyage.strain(just), 2000);
+        just.sail(1);
+        Check.same("2000 holds", just.isSprung(0), false);
+        SquareRig more = Voyage.under(-4, 0, 1, 7);
+        more.wind(7, 11);
+        Check.same("its strain", Voyage.strain(more), 2002);
+        more.sail(1);
+        Check.same("2002 springs", more.isSprung(0), true);
         // 10 * 8 * 11, 9 * 8 * 11 and 4 * 8 * 11 are 2024; with w 8 and push 10 they are 1840.
         SquareRig main = Voyage.under(0, 3, 4, 5);
         main.wind(16, 11);
