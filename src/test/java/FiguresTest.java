@@ -42,7 +42,7 @@ public final class FiguresTest {
     }
 
     /** A ship all of whose ropes have parted: those of the masts 0 and 1 by springing them. */
-    private static SquareRig partAll() {
+    static SquareRig partAll() {
         SquareRig ship = Voyage.under(3, 0, 1, 2, 3, 4, 5, 7);
         ship.sail(10);
         ship.wind(10, 9);

@@ -55,12 +55,12 @@ public final class HoldTest {
         ship.stow(true, 100);
         ship.stow(false, 24);
         Voyage.sailFar(ship, 1440);
-        Check.same("an empty one lies there", casks(ship), "76 0 ");
+        Check.same("an empty one lies there", Voyage.casks(ship), "76 0 ");
         Check.same("an empty one", ship.jettison(), 0);
         Check.same("the next one", ship.jettison(), 76);
         Check.refused("of none left", ship, NoSuchElementException.class, () -> ship.jettison());
         Check.same("a new one", ship.stow(false, 9), 1);
-        Check.same("its units", casks(ship), "9 ");
+        Check.same("its units", Voyage.casks(ship), "9 ");
         // What went over board feeds nobody.
         SquareRig gone = new SquareRig();
         gone.stow(true, 100);
@@ -69,7 +69,7 @@ public final class HoldTest {
         gone.jettison();
         gone.jettison();
         Voyage.sailFar(gone, 1440);
-        Check.same("no food is left", casks(gone) + gone.sick(0), "76 1");
+        Check.same("no food is left", Voyage.casks(gone) + gone.sick(0), "76 1");
     }
 
     private static void aDayTakes() {
@@ -101,10 +101,10 @@ public final class HoldTest {
             ship.stow(cask.charAt(0) == 'w', Integer.parseInt(cask.substring(1)));
         }
         ship.sail(1439);
-        String before = casks(ship);
+        String before = Voyage.casks(ship);
         ship.sail(1);
         Check.same(what + ", before", before, casks.replaceAll("[wf]", "") + (casks.isEmpty() ? "" : " "));
-        Check.same(what, casks(ship), due);
+        Check.same(what, Voyage.casks(ship), due);
         Check.same(what + ", sick", ship.sick(0) + " " + ship.sick(1), sick + " " + sick);
     }
 
@@ -115,24 +115,12 @@ public final class HoldTest {
         ship.stow(true, 46);
         ship.stow(true, 1);
         Voyage.sailFar(ship, 1440);
-        Check.same("the first day", casks(ship) + ship.sick(0), "60 50 23 0 1");
+        Check.same("the first day", Voyage.casks(ship) + ship.sick(0), "60 50 23 0 1");
         Voyage.sailFar(ship, 1440);
-        Check.same("the second day", casks(ship) + ship.sick(0), "36 49 0 0 0");
+        Check.same("the second day", Voyage.casks(ship) + ship.sick(0), "36 49 0 0 0");
         Voyage.sailFar(ship, 1440);
-        Check.same("the third day", casks(ship) + ship.sick(0), "12 25 0 0 0");
+        Check.same("the third day", Voyage.casks(ship) + ship.sick(0), "12 25 0 0 0");
         Voyage.sailFar(ship, 1440);
-        Check.same("the fourth day", casks(ship) + ship.sick(0), "0 1 0 0 1");
-    }
-
-    private static String casks(SquareRig ship) {
-        StringBuilder all = new StringBuilder();
-        try {
-            for (int cask = 0; cask < 30; cask++) {
-                all.append(ship.left(cask)).append(' ');
-            }
-        } catch (IndexOutOfBoundsException e) {
-            return all.toString();
-        }
-        return all.toString();
+        Check.same("the fourth day", Voyage.casks(ship) + ship.sick(0), "0 1 0 0 1");
     }
 }

@@ -37,7 +37,7 @@ public final class OrdersTest {
         for (int sail = 0; sail < 9; sail++) {
             due.append(" sail 0,900,0");
         }
-        due.append(" mast 0,false mast 0,false mast 0,false orders  casks share 0.0 mean 900.0 log ");
+        due.append(" mast 0,false mast 0,false mast 0,false lines 0 share 0.0 mean 900.0 orders  casks log ");
         Check.same("a new ship", Voyage.facts(ship), due.toString());
         Check.same("no current", ship.current(0, 0), false);
         Check.same("no wind", ship.wind(0, 0), 0);
@@ -198,13 +198,13 @@ public final class OrdersTest {
         ship.order('s', 6, 1);
         ship.order('s', 8, 1);
         ship.sail(2);
-        Check.same("who begins", states(ship, 4), "bwbw");
+        Check.same("who begins", Voyage.states(ship, 4), "bwbw");
         Check.same("none is left", ship.free(), 0);
         ship.sail(2);
-        Check.same("not yet", states(ship, 4), "bwbw");
+        Check.same("not yet", Voyage.states(ship, 4), "bwbw");
         // Those who are done free their hands for others in the same minute.
         ship.sail(1);
-        Check.same("the next begin", states(ship, 4), "dbdb");
+        Check.same("the next begin", Voyage.states(ship, 4), "dbdb");
         Check.same("3 are left", ship.free(), 3);
         Check.same("done by rising numbers", Voyage.log(ship), "d4 d4");
     }
@@ -216,14 +216,6 @@ public final class OrdersTest {
         return 12 - ship.free();
     }
 
-    private static String states(SquareRig ship, int orders) {
-        StringBuilder all = new StringBuilder();
-        for (int i = 0; i < orders; i++) {
-            all.append(ship.state(i));
-        }
-        return all.toString();
-    }
-
     private static void promise5orderIsHeardLate() {
         SquareRig ship = new SquareRig();
         ship.sail(7);
@@ -232,9 +224,9 @@ public final class OrdersTest {
         Check.same("in its own minute it waits", ship.state(0), 'w');
         ship.order('s', 1, 2);
         ship.sail(1);
-        Check.same("then it begins", states(ship, 2), "bw");
+        Check.same("then it begins", Voyage.states(ship, 2), "bw");
         ship.sail(1);
-        Check.same("and the next one", states(ship, 2), "bb");
+        Check.same("and the next one", Voyage.states(ship, 2), "bb");
         ship.sail(2);
         Check.same("done in the minute 11", Voyage.log(ship), "d11");
         ship.sail(1);
@@ -343,9 +335,9 @@ public final class OrdersTest {
         ship.order('s', 4, 2);
         ship.order('s', 0, 2);
         Check.same("belay(1)", ship.belay(1), 2);
-        Check.same("taken back", states(ship, 3), "wxw");
+        Check.same("taken back", Voyage.states(ship, 3), "wxw");
         ship.sail(2);
-        Check.same("one begins", states(ship, 3), "bxw");
+        Check.same("one begins", Voyage.states(ship, 3), "bxw");
         Check.refused("one being done", ship, UnsupportedOperationException.class, () -> ship.belay(0));
         Check.refused("one taken back", ship, UnsupportedOperationException.class, () -> ship.belay(1));
         for (int wrong : new int[] {-1, 3, 100, Integer.MIN_VALUE, Integer.MAX_VALUE}) {
@@ -353,7 +345,7 @@ public final class OrdersTest {
         }
         Check.same("belay(2)", ship.belay(2), 0);
         ship.sail(10);
-        Check.same("those never begin", states(ship, 3) + ship.spread(4) + ship.spread(0), "dxx00");
+        Check.same("those never begin", Voyage.states(ship, 3) + ship.spread(4) + ship.spread(0), "dxx00");
         Check.refused("one done", ship, UnsupportedOperationException.class, () -> ship.belay(0));
         Voyage.give(ship, 'm', 1, 0);
         Check.refused("one in vain", ship, UnsupportedOperationException.class, () -> ship.belay(3));
@@ -395,7 +387,7 @@ public final class OrdersTest {
         ship.order('r', 1, 0);
         ship.order('r', 2, 0);
         ship.sail(2);
-        Check.same("three at once", states(ship, 3), "bbb");
+        Check.same("three at once", Voyage.states(ship, 3), "bbb");
         Check.same("no cask came by it", ship.stow(true, 1), 1);
     }
 
@@ -425,12 +417,12 @@ public final class OrdersTest {
         Check.same("16 of 24 are away", ship.free(), 8);
         ship.callAll(false);
         Check.same("not less than 0", ship.free(), 0);
-        Check.same("they stay at it", states(ship, 2), "bb");
+        Check.same("they stay at it", Voyage.states(ship, 2), "bb");
         ship.order('s', 7, 1);
         ship.sail(5);
         Check.same("one has to wait", ship.state(2), 'w');
         ship.sail(115);
-        Check.same("in vain", states(ship, 3), "vvb");
+        Check.same("in vain", Voyage.states(ship, 3), "vvb");
         Check.same("3 are away", ship.free(), 9);
         // Whoever is at an order stays at it when the watch goes below.
         SquareRig late = new SquareRig();

@@ -42,6 +42,44 @@ final class Voyage {
         return ship;
     }
 
+    /**
+     * A ship in a calm, heading north in the minute 40: each sail set as its digit says, and the
+     * yards of the three masts braced like this.
+     */
+    static SquareRig rigged(String spreads, int fore, int main, int mizzen) {
+        SquareRig ship = new SquareRig();
+        ship.callAll(true);
+        ship.order('b', 0, fore);
+        ship.order('b', 1, main);
+        ship.order('b', 2, mizzen);
+        for (int sail = 0; sail < 9; sail++) {
+            if (spreads.charAt(sail) != '0') {
+                ship.order('s', sail, spreads.charAt(sail) - '0');
+            }
+        }
+        ship.sail(40);
+        ship.callAll(false);
+        return ship;
+    }
+
+    /** A ship that runs at 24 tenths of a knot before a wind of 9 on this heading, under the sail 3 alone. */
+    static SquareRig headed(int heading) {
+        SquareRig ship = rigged("000200000", 0, 0, 0);
+        ship.wind(16, 9);
+        ship.sail(12);
+        ship.helm(heading <= 16 ? 3 : -3);
+        int now = 0;
+        for (int i = 0; i < 150 && now != heading; i++) {
+            ship.sail(1);
+            if (ship.heading() != now) {
+                now = ship.heading();
+                ship.wind((now + 16) % 32, 9);
+            }
+        }
+        ship.helm(0);
+        return ship;
+    }
+
     static int strain(SquareRig ship) {
         int strain = 0;
         for (int sail = 0; sail < 9; sail++) {
@@ -69,6 +107,19 @@ final class Voyage {
 
     /** All that can be asked of a ship without changing her. */
     static String facts(SquareRig ship) {
+        StringBuilder all = new StringBuilder(body(ship)).append(" orders ");
+        try {
+            for (int order = 0; order < 200; order++) {
+                all.append(ship.state(order));
+            }
+        } catch (IndexOutOfBoundsException e) {
+            all.append(" casks ");
+        }
+        return all.append(casks(ship)).append("log ").append(log(ship)).toString();
+    }
+
+    /** What can be asked of a ship in few calls, so that her 512 last: all but the orders, casks and lines. */
+    static String body(SquareRig ship) {
         StringBuilder all = new StringBuilder();
         all.append("minute ").append(ship.minute()).append(" heading ").append(ship.heading());
         all.append(" speed ").append(ship.speed()).append(" off ").append(ship.off());
@@ -84,26 +135,43 @@ final class Voyage {
         for (int mast = 0; mast < 3; mast++) {
             all.append(" mast ").append(ship.braced(mast)).append(',').append(ship.isSprung(mast));
         }
-        all.append(" orders ");
-        try {
-            for (int order = 0; order < 200; order++) {
-                all.append(ship.state(order));
-            }
-        } catch (IndexOutOfBoundsException e) {
-            all.append(" casks ");
-        }
-        try {
-            for (int cask = 0; cask < 200; cask++) {
-                all.append(ship.left(cask)).append(' ');
-            }
-        } catch (IndexOutOfBoundsException e) {
-            all.append("share ").append(ship.setShare()).append(" mean ");
-        }
+        all.append(" lines ").append(ship.lines()).append(" share ").append(ship.setShare()).append(" mean ");
         try {
             all.append(ship.meanStrength());
         } catch (ArithmeticException e) {
             all.append("none");
         }
-        return all.append(" log ").append(log(ship)).toString();
+        return all.toString();
+    }
+
+    /** What is in each cask, from the lowest one on. */
+    static String casks(SquareRig ship) {
+        StringBuilder all = new StringBuilder();
+        try {
+            for (int cask = 0; cask < 30; cask++) {
+                all.append(ship.left(cask)).append(' ');
+            }
+        } catch (IndexOutOfBoundsException e) {
+            return all.toString();
+        }
+        return all.toString();
+    }
+
+    /** How each sail is set, from the sail 0 on. */
+    static String spreads(SquareRig ship) {
+        StringBuilder all = new StringBuilder();
+        for (int sail = 0; sail < 9; sail++) {
+            all.append(ship.spread(sail)).append(sail < 8 ? " " : "");
+        }
+        return all.toString();
+    }
+
+    /** The states of the first orders. */
+    static String states(SquareRig ship, int orders) {
+        StringBuilder all = new StringBuilder();
+        for (int i = 0; i < orders; i++) {
+            all.append(ship.state(i));
+        }
+        return all.toString();
     }
 }
