@@ -58,6 +58,7 @@ public final class FaceTest {
         methods();
         constructors();
         noOtherMember();
+        noNameTwice();
         Check.end();
     }
 
@@ -99,6 +100,14 @@ public final class FaceTest {
         for (Class<?> inside : SquareRig.class.getDeclaredClasses()) {
             Check.same(inside.getName() + " is static", Modifier.isStatic(inside.getModifiers()), true);
             Check.same(inside.getName() + " is not public", Modifier.isPublic(inside.getModifiers()), false);
+        }
+    }
+
+    /** LANGUAGE.md, rule 1: no private method bears the name of a public one. */
+    private static void noNameTwice() {
+        Set<String> names = new TreeSet<>();
+        for (Method method : SquareRig.class.getDeclaredMethods()) {
+            Check.same(method.getName() + " is there once", names.add(method.getName()), true);
         }
     }
 }
